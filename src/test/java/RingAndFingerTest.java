@@ -137,6 +137,8 @@ public final class RingAndFingerTest {
         RingAndFinger x = new RingAndFinger();
         due("a try without parts", tell(x, "t0;"), -2000);
         due("a try, parts behind", tell(x, "t0;pp100;"), -2000);
+        due("a part, OFF behind the one", tell(x, "pp100;t0;pp100;"), -2009);
+        due("no part came", x.count(0), 0);
     }
 
     private static void promise3Hand() {
@@ -409,6 +411,12 @@ public final class RingAndFingerTest {
         ways("pp180;s30;", 22, 6, 1, 7);
         ways("pp180;pp180;pp180;", 4, 0, 3, 0);
         ways("pp193;pp192;pp190;", 18, 6, 4, 5);
+        ways("pp195;pp194;pp193;", 18, 6, 4, 6);
+        ways("pr180;s11;", 16, 7, 1, 7);
+        ways("pj185;pt195;h9;c20;r1809;", 12, 5, 4, 5);
+        ways("pk190;r1801;s06;", 6, 5, 2, 5);
+        ways("pt176;pt198;ps208;pk186;pr184;s30;", 120, 7, 8, 7);
+        ways("pk194;pp206;pr205;pk175;ps192;s25;", -9, -9, 10, 7);
         ways("pp100;t0;", 0, -9, 0, -9);
         RingAndFinger x = new RingAndFinger();
         due("soonest(-1)", x.soonest(-1), -2);
@@ -502,7 +510,14 @@ public final class RingAndFingerTest {
         due("year(0, 0, 2), no ROW", x.year(0, 0, 2), -2);
         due("year(0, 0, 0), no ROW", x.year(0, 0, 0), -3);
         refusals("year", x, 0, 3, 1, 2, 0, 2);
-        due("nothing below 250", of("pp240;").year(1, 1, 0), -3);
+        RingAndFinger wide = of("pp236;");
+        rows(wide, 9, 9, 9, 9, 9, 9, 9, 9, 9, 9, 9, 0);
+        due("year(1, 0, 0) the greatest", wide.year(1, 0, 0), 250);
+        due("year(1, 0, 1) the greatest", wide.year(1, 0, 1), 0);
+        due("year(0, 1, 0) the least", wide.year(0, 1, 0), 100);
+        RingAndFinger narrow = of("pp087;");
+        rows(narrow, 9, 9, 9, 9, 9, 9, 9, 9, 9, 9, 9, 0);
+        due("year(1, 0, 0) the second", narrow.year(1, 0, 0), 101);
     }
 
     private static void promise21Two() {
@@ -524,6 +539,7 @@ public final class RingAndFingerTest {
         due("two(0, 0, -1, 0, 0)", x.two(0, 0, -1, 0, 0), -4);
         due("two(0, 0, 100, -1, 0)", x.two(0, 0, 100, -1, 0), -4);
         due("two(0, 13, 0, 0, 3)", x.two(0, 13, 0, 0, 3), -6);
+        due("two(5, 4, -1, 0, 0)", x.two(5, 4, -1, 0, 0), -4);
         due("two(13, 13, 0, 0, 0)", x.two(13, 13, 0, 0, 0), -6);
         due("two(5, 4, 0, 0, 3)", x.two(5, 4, 0, 0, 3), -6);
         due("two(0, 0, 100, 0, 0)", x.two(0, 0, 100, 0, 0), -6);
@@ -532,7 +548,7 @@ public final class RingAndFingerTest {
         x.judge();
         due("two(0, 0, 0, 0, 3), no ROW", x.two(0, 0, 0, 0, 3), -2);
         due("two(0, 0, 0, 0, 0), no ROW", x.two(0, 0, 0, 0, 0), -3);
-        refusals("two", x, 0, 2, 1, 4, 0, 5);
+        refusals("two", x, 0, 2, 1, 5, 0, 5);
     }
 
     private static void promise22Worth() {
