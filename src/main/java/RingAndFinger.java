@@ -24,6 +24,12 @@ public final class RingAndFinger {
     private static final int MOST_MINUTE = 999;
     private static final int MOST_WAIT = 60;
     private static final int MOST_PRICE = 99;
+    private static final int MOST_SOON = 120;
+    private static final int MOST_GENTLE = 60;
+    private static final int MOST_FAILURES = 12;
+    private static final int MOST_EVENINGS = 20;
+    private static final int EVENING_TRIES = 12;
+    private static final int MOST_DANGER = 9;
     private static final int SAFE_BLUE = 9;
     private static final int THREAD_BLUE = 5;
     private static final int MOST_THREADED = 2;
@@ -183,7 +189,7 @@ public final class RingAndFinger {
             return refuse(STATE);
         }
         int best = NONE;
-        int fewest = MOST_NUMBERS + 1;
+        int fewest = MOST_FAILURES + 1;
         for (int kind = 0; kind <= COOLED; kind++) {
             int failures = failuresAhead(kind);
             if (failures >= 0 && failures < fewest) {
@@ -210,18 +216,24 @@ public final class RingAndFinger {
     }
 
     public int soonest(int what) {
-        return isEither(what) ? wayOff(what, false, 120) : refuse(OTHER);
+        if (!isEither(what)) {
+            return refuse(OTHER);
+        }
+        return what == 0 ? search.least(now, 0, false, MOST_SOON) : firstMove(false, MOST_SOON);
     }
 
     public int gentlest(int what) {
-        return isEither(what) ? wayOff(what, true, 60) : refuse(OTHER);
+        if (!isEither(what)) {
+            return refuse(OTHER);
+        }
+        return what == 0 ? search.least(now, 0, true, MOST_GENTLE) : firstMove(true, MOST_GENTLE);
     }
 
     public int danger(int n) {
         if (n < 0) {
             return refuse(BELOW);
         }
-        if (n > 9) {
+        if (n > MOST_DANGER) {
             return refuse(ROOM);
         }
         int blue = Math.min(MOST_BLUE, now.blue + n * THREAD_BLUE);
@@ -369,7 +381,7 @@ public final class RingAndFinger {
         if (n < 1) {
             return refuse(BELOW);
         }
-        if (n > 20) {
+        if (n > MOST_EVENINGS) {
             return refuse(ROOM);
         }
         seed = z;
@@ -461,7 +473,7 @@ public final class RingAndFinger {
 
     private int failuresAhead(int kind) {
         trial.copyFrom(now);
-        for (int failures = 0; failures <= 12; failures++) {
+        for (int failures = 0; failures <= MOST_FAILURES; failures++) {
             if (trial.goesOver(kind)) {
                 return failures;
             }
@@ -470,24 +482,17 @@ public final class RingAndFinger {
         return NONE;
     }
 
-    private int wayOff(int what, boolean gentle, int most) {
+    private int firstMove(boolean gentle, int most) {
         int total = search.least(now, 0, gentle, most);
-        if (what == 0) {
-            return total;
+        if (total <= 0) {
+            return NONE;
         }
-        return total > 0 ? firstMove(total, gentle) : NONE;
-    }
-
-    private int firstMove(int total, boolean gentle) {
         for (int move = 0; move <= WAIT; move++) {
             int rest = total - movePrice(move, gentle);
-            if (rest < 0 || !now.isWorthwhile(move)) {
-                continue;
-            }
+            int used = move == THREADED ? 1 : 0;
             trial.copyFrom(now);
             trial.move(move);
-            int used = move == THREADED ? 1 : 0;
-            if (search.least(trial, used, gentle, rest) == rest) {
+            if (rest >= 0 && search.least(trial, used, gentle, rest) == rest) {
                 return move;
             }
         }
@@ -571,7 +576,7 @@ public final class RingAndFinger {
         trial.copyFrom(now);
         trial.harm = 0;
         trial.swell = draw(MOST_SWELL + 1);
-        for (int i = 0; i < 12 && !trial.isOff(); i++) {
+        for (int i = 0; i < EVENING_TRIES && !trial.isOff(); i++) {
             trial.attempt(draw(COOLED));
         }
         return trial.harm;
@@ -774,18 +779,19 @@ public final class RingAndFinger {
             return kind == COOLED ? Math.min(MOST_COLD, cold + 8) : cold;
         }
 
-        boolean wouldPass(int kind, int thick) {
-            int ahead = thickness(at(kinds, front), thick, swell, coldAhead(kind), heat);
+        boolean goesOver(int kind) {
+            if (isOff()) {
+                return false;
+            }
+            int ahead = thickness(at(kinds, front), at(thicks, front), swell, coldAhead(kind), heat);
             return ahead <= size + allowance(kind, broad);
         }
 
-        boolean goesOver(int kind) {
-            return !isOff() && wouldPass(kind, at(thicks, front));
-        }
-
+        /** The most that the part in front may be for a try to go over; -1 none. It has another THICK then. */
         int thickestThatGoes(int kind) {
             for (int thick = MOST_THICK; thick >= 0; thick--) {
-                if (wouldPass(kind, thick)) {
+                put(thicks, front, thick);
+                if (goesOver(kind)) {
                     return thick;
                 }
             }
@@ -825,11 +831,6 @@ public final class RingAndFinger {
             } else if (move == WAIT) {
                 rest(SHORT_WAIT);
             }
-        }
-
-        /** A try that stays in front only costs and swells, unless it cools: no best way has one. */
-        boolean isWorthwhile(int move) {
-            return move >= COOLED || goesOver(move);
         }
 
         int setting(int what) {
@@ -988,19 +989,29 @@ public final class RingAndFinger {
             }
         }
 
+        /** A try that stays in front only costs and swells, unless it cools: no best way has one. */
         void spread(int price, int place, int cold) {
             int used = place / SWELLS % THREADS;
-            for (int move = 0; move <= WAIT; move++) {
-                finger.front = place / SWELLS / THREADS;
-                finger.swell = place % SWELLS;
-                finger.cold = cold;
-                boolean thread = move == THREADED;
-                if (thread && used >= MOST_THREADED || !finger.isWorthwhile(move)) {
+            for (int kind = 0; kind <= COOLED; kind++) {
+                stand(place, cold);
+                boolean thread = kind == THREADED;
+                boolean over = finger.goesOver(kind);
+                if (!over && kind != COOLED || thread && used >= MOST_THREADED) {
                     continue;
                 }
-                finger.move(move);
-                arrive(price + movePrice(move, gentle), thread ? used + 1 : used);
+                finger.strain(kind);
+                finger.front += over ? 1 : 0;
+                arrive(price + movePrice(kind, gentle), thread ? used + 1 : used);
             }
+            stand(place, cold);
+            finger.rest(SHORT_WAIT);
+            arrive(price + movePrice(WAIT, gentle), used);
+        }
+
+        void stand(int place, int cold) {
+            finger.front = place / SWELLS / THREADS;
+            finger.swell = place % SWELLS;
+            finger.cold = cold;
         }
     }
 }
