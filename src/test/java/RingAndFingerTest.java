@@ -182,10 +182,13 @@ public final class RingAndFingerTest {
         due("part(0, -1)", x.part(0, -1), -2);
         due("part(0, 3)", x.part(0, 3), -2);
         refusals("part", x, 3, 2, 0, 0, 0, 0);
-        RingAndFinger thin = of("pp010;pk002;pt003;c20;h0;");
+        RingAndFinger thin = of("pp010;pk002;pt003;ps000;pr000;pj000;c20;h0;");
         due("p NOW 0 at least", thin.part(0, 2), 0);
         due("k NOW 0 at least", thin.part(1, 2), 0);
         due("t NOW 0 at least", thin.part(2, 2), 0);
+        due("s NOW 0 at least", thin.part(3, 2), 0);
+        due("r NOW 0 at least", thin.part(4, 2), 0);
+        due("j NOW 0 at least", thin.part(5, 2), 0);
     }
 
     private static void setting(RingAndFinger x, int what, int first, int least, int greatest, int counted) {
