@@ -702,16 +702,17 @@ public final class RingAndFinger {
         return gentle ? at(MOVE_HARM, move) : at(MOVE_MINUTES, move);
     }
 
+    // A kind is as the one it is under, and that one is cut at 0 already: the cut is made at each.
     private static int thickness(int kind, int thick, int swell, int cold, int heat) {
-        int plain = thick + swell - cold;
-        int knuckle = thick + swell / 2 - cold / 4;
+        int plain = Math.max(0, thick + swell - cold);
+        int knuckle = Math.max(0, thick + swell / 2 - cold / 4);
         switch (kind) {
-            case KNUCKLE: return Math.max(0, knuckle);
-            case SKIN: return Math.max(0, plain + swell);
-            case ROLL: return Math.max(0, plain + swell + (swell > 9 ? 3 : 0));
-            case JOINT: return Math.max(0, knuckle + heat);
+            case KNUCKLE: return knuckle;
+            case SKIN: return plain + swell;
+            case ROLL: return plain + swell + (swell > 9 ? 3 : 0);
+            case JOINT: return knuckle + heat;
             case TIP: return Math.max(0, knuckle + heat - 10);
-            default: return Math.max(0, plain);
+            default: return plain;
         }
     }
 

@@ -34,19 +34,23 @@ public final class RingAndFingerModelTest {
             return front == kinds.length;
         }
 
-        static int raw(int kind, int thick, int swell, int cold, int heat) {
+        static int now(int kind, int thick, int swell, int cold, int heat) {
+            return Math.max(0, uncut(kind, thick, swell, cold, heat));
+        }
+
+        static int uncut(int kind, int thick, int swell, int cold, int heat) {
             switch (kind) {
                 case 0: return thick + swell - cold;
                 case 1: return thick + (swell >> 1) - (cold >> 2);
-                case 2: return raw(0, thick, swell, cold, heat) + swell;
-                case 3: return raw(2, thick, swell, cold, heat) + (swell > 9 ? 3 : 0);
-                case 4: return raw(1, thick, swell, cold, heat) + heat;
-                default: return raw(4, thick, swell, cold, heat) - 10;
+                case 2: return now(0, thick, swell, cold, heat) + swell;
+                case 3: return now(2, thick, swell, cold, heat) + (swell > 9 ? 3 : 0);
+                case 4: return now(1, thick, swell, cold, heat) + heat;
+                default: return now(4, thick, swell, cold, heat) - 10;
             }
         }
 
         int thick(int p) {
-            return Math.max(0, raw(kinds[p], thicks[p], settings[2], settings[3], settings[4]));
+            return now(kinds[p], thicks[p], settings[2], settings[3], settings[4]);
         }
 
         int most() {
@@ -150,8 +154,8 @@ public final class RingAndFingerModelTest {
                 return FAR;
             }
             int colder = move == 6 ? Math.min(20, cold + 8) : cold;
-            int thick = State.raw(s.kinds[front], s.thicks[front], swell, colder, s.settings[4]);
-            boolean over = Math.max(0, thick) <= s.settings[0] + s.of(move, 0);
+            int thick = State.now(s.kinds[front], s.thicks[front], swell, colder, s.settings[4]);
+            boolean over = thick <= s.settings[0] + s.of(move, 0);
             return s.of(move, byHarm ? 3 : 1)
                 + at(over ? front + 1 : front, Math.min(30, swell + s.of(move, 2)), colder, used + (move == 5 ? 1 : 0));
         }
@@ -645,6 +649,9 @@ public final class RingAndFingerModelTest {
         }
 
         int near() {
+            if (below(12) == 0) {
+                return below(30);
+            }
             return below(8) == 0 ? below(241) : Math.max(0, Math.min(240, base - 12 + below(28)));
         }
 
@@ -779,11 +786,32 @@ public final class RingAndFingerModelTest {
         return !run.wrong;
     }
 
+    /** Parts so thin that the cuts at 0 tell, of each kind one. */
+    private static boolean thinPartsAreRight(int seed) {
+        Run run = new Run(-seed);
+        StringBuilder text = new StringBuilder();
+        for (int p = 0; p < 6; p++) {
+            text.append('p').append("pksrjt".charAt(p)).append(Run.digits(run.below(25), 3)).append(';');
+        }
+        run.tell(text.toString());
+        for (int i = 0; i < 20; i++) {
+            run.ask(3, 2, run.below(31));
+            run.ask(3, 3, run.below(21));
+            run.ask(3, 4, run.below(10));
+            for (int p = 0; p < 6; p++) {
+                run.ask(2, p, 2);
+            }
+            run.ask(9);
+            run.ask(6, run.below(7));
+        }
+        return !run.wrong;
+    }
+
     public static void main(String[] args) {
         int factor = args.length > 0 ? Integer.parseInt(args[0]) : 1;
         int wrong = 0;
         for (int seed = 1; seed <= RUNS * factor; seed++) {
-            if (!new Run(seed).right() || !waysAreRight(seed)) {
+            if (!new Run(seed).right() || !waysAreRight(seed) || !thinPartsAreRight(seed)) {
                 wrong++;
                 System.out.println("seed " + seed + " is wrong");
             }

@@ -191,6 +191,39 @@ public final class RingAndFingerTest {
         due("j NOW 0 at least", thin.part(5, 2), 0);
     }
 
+    /** Each kind is built on the one it is under when that one has been cut at 0. */
+    private static void promise4ThinParts() {
+        RingAndFinger x = of("pp000;pk000;ps000;pr000;pj000;pt012;s01;c02;h5;");
+        due("p THICK 0, SWELL 1, COLD 2", x.part(0, 2), 0);
+        due("k THICK 0, SWELL 1, COLD 2", x.part(1, 2), 0);
+        due("s THICK 0, SWELL 1, COLD 2", x.part(2, 2), 1);
+        due("r THICK 0, SWELL 1, COLD 2", x.part(3, 2), 1);
+        due("j THICK 0, SWELL 1, COLD 2", x.part(4, 2), 5);
+        due("t THICK 12, SWELL 1, COLD 2", x.part(5, 2), 7);
+        x.set(3, 20);
+        due("k THICK 0, COLD 20", x.part(1, 2), 0);
+        due("s THICK 0, COLD 20", x.part(2, 2), 1);
+        due("j THICK 0, COLD 20", x.part(4, 2), 5);
+        due("t THICK 12, COLD 20", x.part(5, 2), 2);
+        x.set(4, 9);
+        due("j THICK 0, COLD 20, HEAT 9", x.part(4, 2), 9);
+        due("t THICK 12, COLD 20, HEAT 9", x.part(5, 2), 6);
+        x.set(2, 10);
+        due("p THICK 0, SWELL 10, COLD 20", x.part(0, 2), 0);
+        due("s THICK 0, SWELL 10, COLD 20", x.part(2, 2), 10);
+        due("r THICK 0, SWELL 10, COLD 20", x.part(3, 2), 13);
+        due("j THICK 0, SWELL 10, COLD 20", x.part(4, 2), 9);
+        RingAndFinger edge = of("ps001;pr001;pj004;s09;c10;h0;");
+        due("s just 0 as a p", edge.part(0, 2), 9);
+        due("r just 0 as a p", edge.part(1, 2), 9);
+        due("j, knuckle 6", edge.part(2, 2), 6);
+        edge.set(3, 9);
+        due("s, 1 as a p", edge.part(0, 2), 10);
+        edge.set(3, 11);
+        due("s, below 0 as a p", edge.part(0, 2), 9);
+        due("holds() of a thin s", edge.holds(), 9 - 180);
+    }
+
     private static void setting(RingAndFinger x, int what, int first, int least, int greatest, int counted) {
         due("set(" + what + ") first", x.set(what, least), first);
         due("set(" + what + ") below", x.set(what, least - 1), -4);
@@ -780,6 +813,7 @@ public final class RingAndFingerTest {
         promise3SenseFaults();
         promise3Hand();
         promise4Part();
+        promise4ThinParts();
         promise5Set();
         promise6Back();
         promise7Kind();
