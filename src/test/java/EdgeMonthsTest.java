@@ -100,6 +100,28 @@ public final class EdgeMonthsTest {
         }
     }
 
+    // Terms II "some PART", "all": the PARTS that there are now, more by a hand and fewer by THE IMAGE.
+    private static void terms2PartsThatAreNow() {
+        RingAndFinger x = even("pp180;", 0);
+        x.image();
+        Edges.tell(x, "pp190;");
+        Edges.due("sticks(176), a PART more", x.sticks(176), ALL);
+        x.on();
+        Edges.due("sticks(176), as then", x.sticks(176), 0);
+        Edges.tell(x, "pp190;");
+        Edges.due("falls(181), a PART more", x.falls(181), 0);
+        x.on();
+        Edges.due("falls(181), as then", x.falls(181), ALL);
+        Edges.tell(x, "pp190;");
+        Edges.due("year(1, 1, 0), a PART more", x.year(1, 1, 0), 177);
+        x.on();
+        Edges.due("year(1, 1, 0), as then", x.year(1, 1, 0), 167);
+        Edges.tell(x, "pp190;");
+        Edges.due("two(0, 6, 1, 1, 0), a PART more", x.two(0, 6, 1, 1, 0), 177);
+        x.on();
+        Edges.due("two(0, 6, 1, 1, 0), as then", x.two(0, 6, 1, 1, 0), 167);
+    }
+
     // Terms II "a ring of a SIZE": the SIZE that there is does not tell.
     private static void terms2AnySize() {
         RingAndFinger x = yearly();

@@ -51,6 +51,22 @@ public final class EdgeToldTest {
         went("pj171;h9;", 0, 2, 1);
     }
 
+    // Terms II "as they are": as they became by set, a TRY, a WAIT and THE IMAGE, asked at once behind each.
+    private static void terms2WentAsTheyBecame() {
+        RingAndFinger x = Edges.of("pp192;r1809;");
+        x.image();
+        x.set(3, 13);
+        Edges.due("went(0, 1), COLD 13", x.went(0, 1), 1);
+        x.tries(6);
+        Edges.due("went(0, 1), COLD 20", x.went(0, 1), 8);
+        x.pause(9);
+        Edges.due("went(0, 1), COLD 17", x.went(0, 1), 5);
+        x.set(0, 182);
+        Edges.due("went(0, 1), SIZE 182", x.went(0, 1), 7);
+        x.on();
+        Edges.due("went(0, 1), COLD 0 again", x.went(0, 1), -9);
+    }
+
     // Terms II "all PARTS": the thickest tells, passed or not, wherever it is; without PARTS all are.
     private static void terms2WentAllParts() {
         went("pp180;pp100;pp100;", 0, 1, 0);
@@ -134,6 +150,22 @@ public final class EdgeToldTest {
         feel("pp000;r1809;c12;", 0, 202, 6, 1, 6, 1);
         Edges.asks("feel(1) of the second", () -> told("pp100;pp240;s05;r1809;t5;", 0, 1, 0, 1), x -> x.feel(1), 172);
         Edges.asks("feel(1) of the first", () -> told("pp240;pp100;r1809;", 0, 1, 0, 1), x -> x.feel(1), 178);
+    }
+
+    // Terms II "from now": from what became by set, a TRY, a WAIT and THE IMAGE, asked at once behind each.
+    private static void terms2FeelFromNow() {
+        RingAndFinger x = told("pp240;r1809;", 0, 1);
+        x.image();
+        x.set(2, 5);
+        Edges.due("feel(1), SWELL 5", x.feel(1), 175);
+        x.tries(0);
+        Edges.due("feel(1), SWELL 7", x.feel(1), 173);
+        x.pause(8);
+        Edges.due("feel(1), SWELL 3", x.feel(1), 177);
+        x.set(0, 190);
+        Edges.due("feel(1), SIZE 190", x.feel(1), 187);
+        x.on();
+        Edges.due("feel(1), SWELL 0 again", x.feel(1), 180);
     }
 
     // Promise 24 "-3 .. the ROW has not twos as told": an odd ROW, a KIND above 6, neither 1 nor 0, wherever in it.
@@ -251,6 +283,23 @@ public final class EdgeToldTest {
         judged("pp100;", -9, 7);
     }
 
+    // Terms II "from now": from what became by set, a TRY, a WAIT and THE IMAGE, asked at once behind each.
+    private static void terms2JudgedFromNow() {
+        RingAndFinger x = told("pp100;pp178;r1809;s10;", 0, 0);
+        x.image();
+        Edges.due("judge(), SWELL 10", x.judge(), -9);
+        Edges.rows(x, 0, 0).set(2, 0);
+        Edges.due("judge(), SWELL 0", x.judge(), 1);
+        Edges.rows(x, 0).tries(0);
+        Edges.due("judge() behind a TRY", x.judge(), 0);
+        Edges.rows(x, 0, 0).back();
+        Edges.due("judge(), back at the root", x.judge(), -9);
+        Edges.rows(x, 0, 0).pause(4);
+        Edges.due("judge() behind a WAIT", x.judge(), 1);
+        Edges.rows(x, 0, 0).on();
+        Edges.due("judge() behind on()", x.judge(), -9);
+    }
+
     // Promise 26 "numbers above 7 do nothing": 8 and 9, but their places count.
     private static void promise26AboveSeven() {
         judged("pp180;s02;", -9, 8, 9, 8, 9, 0);
@@ -350,6 +399,21 @@ public final class EdgeToldTest {
             evenings(new int[] {240}, 100, 9, 0, 4, 5));
         Edges.asks("lots(20, 5) OFF", EdgeToldTest::passed, x -> x.lots(20, 5), 0);
         Edges.asks("lots(20, 5) without PARTS", RingAndFinger::new, x -> x.lots(20, 5), 0);
+    }
+
+    // Terms II "from now else": from what became by set, a TRY and THE IMAGE, asked at once behind each.
+    private static void terms2LotsAsItBecame() {
+        RingAndFinger x = evening();
+        x.image();
+        x.set(3, 11);
+        Edges.due("lots(9, 1), COLD 11", x.lots(9, 1), evenings(new int[] {170, 165, 160}, 175, 5, 11, 9, 1));
+        x.tries(6);
+        Edges.due("lots(9, 1), one past", x.lots(9, 1), evenings(new int[] {165, 160}, 175, 5, 19, 9, 1));
+        x.set(1, 9);
+        x.set(0, 160);
+        Edges.due("lots(9, 1), SIZE 160", x.lots(9, 1), evenings(new int[] {165, 160}, 160, 9, 19, 9, 1));
+        x.on();
+        Edges.due("lots(9, 1), as then", x.lots(9, 1), evenings(new int[] {170, 165, 160}, 175, 5, 4, 9, 1));
     }
 
     // Promise 27 "-4; -6 20.": 0 and 21 are refused, and what is far away, whichever the seed.
