@@ -137,12 +137,7 @@ public final class EdgeMonthsTest {
         Edges.asks("sticks(250)", EdgeMonthsTest::yearly, x -> x.sticks(250), 0);
         Edges.refusedAnywhere("sticks(99)", x -> x.sticks(99), -4);
         Edges.refusedAnywhere("sticks(251)", x -> x.sticks(251), -6);
-        for (int far : Edges.FAR_BELOW) {
-            Edges.refusedAnywhere("sticks(" + far + ")", x -> x.sticks(far), -4);
-        }
-        for (int far : Edges.FAR_ABOVE) {
-            Edges.refusedAnywhere("sticks(" + far + ")", x -> x.sticks(far), -6);
-        }
+        Edges.refusedFar("sticks", RingAndFinger::sticks, -4, -6);
     }
 
     // Promise 19 "likewise": the same range.
@@ -151,12 +146,7 @@ public final class EdgeMonthsTest {
         Edges.asks("falls(250)", EdgeMonthsTest::yearly, x -> x.falls(250), ALL);
         Edges.refusedAnywhere("falls(99)", x -> x.falls(99), -4);
         Edges.refusedAnywhere("falls(251)", x -> x.falls(251), -6);
-        for (int far : Edges.FAR_BELOW) {
-            Edges.refusedAnywhere("falls(" + far + ")", x -> x.falls(far), -4);
-        }
-        for (int far : Edges.FAR_ABOVE) {
-            Edges.refusedAnywhere("falls(" + far + ")", x -> x.falls(far), -6);
-        }
+        Edges.refusedFar("falls", RingAndFinger::falls, -4, -6);
     }
 
     // Promises 18 to 22 "-3 the ROW has not 12": with 0 .. 11 numbers; with 12 it has.

@@ -263,12 +263,7 @@ public final class EdgeRingTest {
     // Promise 8 "-2": KINDS 0 .. 6 are, no other.
     private static void promise8Other() {
         Edges.refusedAnywhere("tries(7)", x -> x.tries(7), -2);
-        for (int far : Edges.FAR_BELOW) {
-            Edges.refused("tries(" + far + ")", Edges::midway, x -> x.tries(far), -2);
-        }
-        for (int far : Edges.FAR_ABOVE) {
-            Edges.refused("tries(" + far + ")", Edges::midway, x -> x.tries(far), -2);
-        }
+        Edges.refusedFar("tries", RingAndFinger::tries, -2, -2);
     }
 
     // Promise 8 "-2; -3 it is OFF; -6": in this order.
@@ -284,12 +279,7 @@ public final class EdgeRingTest {
         Edges.due("pause(60)", new RingAndFinger().pause(60), 60);
         Edges.refusedAnywhere("pause(0)", x -> x.pause(0), -4);
         Edges.refusedAnywhere("pause(61)", x -> x.pause(61), -6);
-        for (int far : Edges.FAR_BELOW) {
-            Edges.refusedAnywhere("pause(" + far + ")", x -> x.pause(far), -4);
-        }
-        for (int far : Edges.FAR_ABOVE) {
-            Edges.refusedAnywhere("pause(" + far + ")", x -> x.pause(far), -6);
-        }
+        Edges.refusedFar("pause", RingAndFinger::pause, -4, -6);
     }
 
     // Promise 9 "-6 (.. MINUTE above 999)": till 999, not till 1000; -4 ahead of it.
@@ -368,12 +358,7 @@ public final class EdgeRingTest {
     // Promise 10 "-2; -3 it is OFF": KINDS 0 .. 6; in this order.
     private static void promise10Refused() {
         Edges.refusedAnywhere("would(7)", x -> x.would(7), -2);
-        for (int far : Edges.FAR_BELOW) {
-            Edges.refusedAnywhere("would(" + far + ")", x -> x.would(far), -2);
-        }
-        for (int far : Edges.FAR_ABOVE) {
-            Edges.refusedAnywhere("would(" + far + ")", x -> x.would(far), -2);
-        }
+        Edges.refusedFar("would", RingAndFinger::would, -2, -2);
         for (int kind = 0; kind < 7; kind++) {
             int k = kind;
             Edges.refused("would(" + k + ") OFF", EdgeRingTest::passed, x -> x.would(k), -3);
@@ -429,12 +414,7 @@ public final class EdgeRingTest {
     // Promise 12 "-2; -3 it is OFF": KINDS 0 .. 6; in this order.
     private static void promise12Refused() {
         Edges.refusedAnywhere("goes(7)", x -> x.goes(7), -2);
-        for (int far : Edges.FAR_BELOW) {
-            Edges.refusedAnywhere("goes(" + far + ")", x -> x.goes(far), -2);
-        }
-        for (int far : Edges.FAR_ABOVE) {
-            Edges.refusedAnywhere("goes(" + far + ")", x -> x.goes(far), -2);
-        }
+        Edges.refusedFar("goes", RingAndFinger::goes, -2, -2);
         for (int kind = 0; kind < 7; kind++) {
             int k = kind;
             Edges.refused("goes(" + k + ") OFF", EdgeRingTest::passed, x -> x.goes(k), -3);
@@ -517,12 +497,7 @@ public final class EdgeRingTest {
     // Promise 14 "-2; -3 it is OFF": KINDS 0 .. 6; in this order.
     private static void promise14Refused() {
         Edges.refusedAnywhere("waited(7)", x -> x.waited(7), -2);
-        for (int far : Edges.FAR_BELOW) {
-            Edges.refusedAnywhere("waited(" + far + ")", x -> x.waited(far), -2);
-        }
-        for (int far : Edges.FAR_ABOVE) {
-            Edges.refusedAnywhere("waited(" + far + ")", x -> x.waited(far), -2);
-        }
+        Edges.refusedFar("waited", RingAndFinger::waited, -2, -2);
         for (int kind = 0; kind < 7; kind++) {
             int k = kind;
             Edges.refused("waited(" + k + ") OFF", EdgeRingTest::passed, x -> x.waited(k), -3);

@@ -200,12 +200,7 @@ public final class EdgeToldTest {
     // Promise 24 "-2; -3": what 0 and 1 are, no other; in this order.
     private static void promise24Other() {
         Edges.refusedAnywhere("feel(2)", x -> x.feel(2), -2);
-        for (int far : Edges.FAR_BELOW) {
-            Edges.refusedAnywhere("feel(" + far + ")", x -> x.feel(far), -2);
-        }
-        for (int far : Edges.FAR_ABOVE) {
-            Edges.refusedAnywhere("feel(" + far + ")", x -> x.feel(far), -2);
-        }
+        Edges.refusedFar("feel", RingAndFinger::feel, -2, -2);
         Edges.refused("feel(2), odd ROW", () -> told("pp100;", 9), x -> x.feel(2), -2);
     }
 
@@ -222,12 +217,7 @@ public final class EdgeToldTest {
     private static void promise25Range() {
         Edges.refusedAnywhere("row(-1)", x -> x.row(-1), -4);
         Edges.refusedAnywhere("row(10)", x -> x.row(10), -6);
-        for (int far : Edges.FAR_BELOW) {
-            Edges.refusedAnywhere("row(" + far + ")", x -> x.row(far), -4);
-        }
-        for (int far : Edges.FAR_ABOVE) {
-            Edges.refusedAnywhere("row(" + far + ")", x -> x.row(far), -6);
-        }
+        Edges.refusedFar("row", RingAndFinger::row, -4, -6);
     }
 
     // Promise 25 "-6 (.. 12, too)": the 13th of each number is refused; -4 ahead of it.

@@ -117,23 +117,13 @@ public final class EdgeWaysTest {
     // Promise 15 "-2": what 0 and 1 are, no other, wherever the RING is.
     private static void promise15Other() {
         Edges.refusedAnywhere("soonest(2)", x -> x.soonest(2), -2);
-        for (int far : Edges.FAR_BELOW) {
-            Edges.refused("soonest(" + far + ")", Edges::midway, x -> x.soonest(far), -2);
-        }
-        for (int far : Edges.FAR_ABOVE) {
-            Edges.refused("soonest(" + far + ")", Edges::off, x -> x.soonest(far), -2);
-        }
+        Edges.refusedFar("soonest", RingAndFinger::soonest, -2, -2);
     }
 
     // Promise 16 "-2": likewise.
     private static void promise16Other() {
         Edges.refusedAnywhere("gentlest(2)", x -> x.gentlest(2), -2);
-        for (int far : Edges.FAR_BELOW) {
-            Edges.refused("gentlest(" + far + ")", Edges::off, x -> x.gentlest(far), -2);
-        }
-        for (int far : Edges.FAR_ABOVE) {
-            Edges.refused("gentlest(" + far + ")", Edges::midway, x -> x.gentlest(far), -2);
-        }
+        Edges.refusedFar("gentlest", RingAndFinger::gentlest, -2, -2);
     }
 
     /** BLUE as asked for, by THREADED TRIES that do not go over and a WAIT. */
@@ -195,12 +185,7 @@ public final class EdgeWaysTest {
     // Promise 17 "-4; -6 9.": 0 and 9 are taken, one more or less is not, nor what is far away.
     private static void promise17Refused() {
         Edges.refusedAnywhere("danger(10)", x -> x.danger(10), -6);
-        for (int far : Edges.FAR_BELOW) {
-            Edges.refusedAnywhere("danger(" + far + ")", x -> x.danger(far), -4);
-        }
-        for (int far : Edges.FAR_ABOVE) {
-            Edges.refusedAnywhere("danger(" + far + ")", x -> x.danger(far), -6);
-        }
+        Edges.refusedFar("danger", RingAndFinger::danger, -4, -6);
     }
 
     public static void main(String[] args) throws ReflectiveOperationException {

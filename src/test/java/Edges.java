@@ -4,6 +4,7 @@ import java.util.Arrays;
 import java.util.Comparator;
 import java.util.List;
 import java.util.function.Supplier;
+import java.util.function.ToIntBiFunction;
 import java.util.function.ToLongFunction;
 
 /** What the tests of edges share: starts, answers that are due, and twins of which one was asked something more. */
@@ -140,6 +141,16 @@ final class Edges {
         for (Supplier<RingAndFinger> start : starts()) {
             refused(call + " from start " + n, start, ask, want);
             n++;
+        }
+    }
+
+    /** Of a call with one number: what is far below and far above its range is refused, from each start. */
+    static void refusedFar(String name, ToIntBiFunction<RingAndFinger, Integer> ask, int below, int above) {
+        for (int far : FAR_BELOW) {
+            refusedAnywhere(name + "(" + far + ")", x -> ask.applyAsInt(x, far), below);
+        }
+        for (int far : FAR_ABOVE) {
+            refusedAnywhere(name + "(" + far + ")", x -> ask.applyAsInt(x, far), above);
         }
     }
 
