@@ -7,7 +7,7 @@ import java.util.function.Supplier;
 import java.util.function.ToIntBiFunction;
 import java.util.function.ToLongFunction;
 
-/** What the tests of edges share: starts, answers that are due, and twins of which one was asked something more. */
+/** What the tests of sentences share: starts, answers that are due, and twins of which one was asked something more. */
 final class Edges {
     static final int[] FAR_BELOW = {-1, -2, -128, -256, -65536, Integer.MIN_VALUE + 1, Integer.MIN_VALUE};
     static final int[] FAR_ABOVE = {256, 65536, 1 << 30, Integer.MAX_VALUE - 1, Integer.MAX_VALUE};
@@ -32,7 +32,7 @@ final class Edges {
         Arrays.sort(methods, Comparator.comparing(Method::getName));
         int ran = 0;
         for (Method m : methods) {
-            if (m.getName().matches("(promise|terms).*") && m.getParameterCount() == 0) {
+            if (m.getName().matches("(promise|terms|face|whatItIs|readme).*") && m.getParameterCount() == 0) {
                 m.setAccessible(true);
                 m.invoke(null);
                 ran++;

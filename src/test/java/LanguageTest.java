@@ -1,5 +1,4 @@
 import java.io.IOException;
-import java.lang.reflect.Constructor;
 import java.lang.reflect.Field;
 import java.lang.reflect.Method;
 import java.lang.reflect.Modifier;
@@ -7,6 +6,9 @@ import java.nio.file.Files;
 import java.nio.file.Path;
 import java.util.ArrayList;
 import java.util.List;
+import java.util.Map;
+import java.util.Set;
+import java.util.TreeMap;
 import java.util.TreeSet;
 import java.util.regex.Matcher;
 import java.util.regex.Pattern;
@@ -14,13 +16,11 @@ import java.util.regex.Pattern;
 /** What of LANGUAGE.md can be told from the source's words and by reflection. */
 public final class LanguageTest {
     private static final Path SOURCE = Path.of("src/main/java/RingAndFinger.java");
-    private static final String[] FACE = {"letter(int)", "hand()", "part(int,int)", "set(int,int)", "back()",
-        "kind(int,int)", "tries(int)", "pause(int)", "would(int)", "holds()", "goes(int)", "stop()", "waited(int)",
-        "soonest(int)", "gentlest(int)", "danger(int)", "sticks(int)", "falls(int)", "year(int,int,int)",
-        "two(int,int,int,int,int)", "worth(int,int,int,int)", "went(int,int)", "feel(int)", "row(int)", "judge()",
-        "lots(int,int)", "image()", "on()", "count(int)"};
     private static final String FORBIDDEN = "\\b(throw|throws|try|catch|finally|synchronized|assert|import|package|var"
         + "|instanceof|while|protected|Object|System\\.(?!arraycopy)\\w+|\\w+Exact|Random|Thread)\\b|->|::|@";
+
+    private static final Pattern HEAD = Pattern.compile(" {4,8}[\\w\\[\\] ]*?(\\w+)\\((?:(?:int|boolean|Finger)[^;=]*)?\\) \\{");
+    private static final Pattern CALL = Pattern.compile("\\b(?!if\\b|for\\b|switch\\b|return\\b|new\\b)(\\w+)\\(");
 
     private static int wrong = 0;
 
@@ -31,37 +31,17 @@ public final class LanguageTest {
         }
     }
 
-    private static String signature(Method m) {
-        StringBuilder s = new StringBuilder(m.getName()).append('(');
-        for (Class<?> c : m.getParameterTypes()) {
-            s.append(s.charAt(s.length() - 1) == '(' ? "" : ",").append(c.getName());
-        }
-        return s.append(')').toString();
-    }
-
-    private static void face() {
-        TreeSet<String> due = new TreeSet<>(List.of(FACE));
+    private static void names() {
         TreeSet<String> open = new TreeSet<>();
-        TreeSet<String> openNames = new TreeSet<>();
-        List<Method> hidden = new ArrayList<>();
         for (Method m : RingAndFinger.class.getDeclaredMethods()) {
-            if (Modifier.isPrivate(m.getModifiers())) {
-                hidden.add(m);
-            } else {
-                open.add(signature(m));
-                openNames.add(m.getName());
-                hold(m.getReturnType() == int.class && Modifier.isPublic(m.getModifiers()), m + " is public int");
+            if (Modifier.isPublic(m.getModifiers())) {
+                open.add(m.getName());
             }
+        }
+        for (Method m : RingAndFinger.class.getDeclaredMethods()) {
             hold(m.getParameterCount() <= 7, m + " takes seven at most");
+            hold(!Modifier.isPrivate(m.getModifiers()) || !open.contains(m.getName()), m.getName() + " is no public name");
         }
-        hold(open.equals(due), "the face is the document's: " + open);
-        for (Method m : hidden) {
-            hold(!openNames.contains(m.getName()), m.getName() + " is no public name");
-        }
-        Constructor<?>[] made = RingAndFinger.class.getDeclaredConstructors();
-        hold(made.length == 1 && made[0].getParameterCount() == 0 && Modifier.isPublic(made[0].getModifiers()),
-            "one public constructor");
-        hold(Modifier.isFinal(RingAndFinger.class.getModifiers()), "the class is final");
     }
 
     private static void fields(Class<?> c) {
@@ -75,8 +55,7 @@ public final class LanguageTest {
         hold(own <= 20, c + " has some twenty fields");
     }
 
-    private static void words(String source) {
-        String bare = source.replaceAll("(?s)/\\*.*?\\*/", " ").replaceAll("//[^\n]*", " ");
+    private static void words(String source, String bare) {
         Matcher m = Pattern.compile(FORBIDDEN).matcher(bare);
         while (m.find()) {
             hold(false, "no '" + m.group() + "' in the source");
@@ -88,7 +67,7 @@ public final class LanguageTest {
         int open = -1;
         String[] lines = source.split("\n");
         for (int i = 0; i < lines.length; i++) {
-            if (lines[i].matches(" {4,8}[\\w<>\\[\\] ]+\\(.*\\) \\{")) {
+            if (HEAD.matcher(lines[i]).matches()) {
                 open = i;
             }
             if (open >= 0 && lines[i].matches(" {4,8}\\}") && i - open > 60) {
@@ -97,15 +76,67 @@ public final class LanguageTest {
         }
     }
 
+    /** What a call makes would be kept till the run ends: all that is made is made with the object. */
+    private static void made(String bare) {
+        for (String line : bare.split("\n")) {
+            hold(!line.matches(".*\\bnew\\b.*") || line.matches(" +(private )?final [\\w\\[\\]]+ \\w+ = new .*;"),
+                "made with the object alone: " + line.trim());
+        }
+    }
+
+    /** Of each name what its bodies call; two methods of one name count as one. */
+    private static Map<String, Set<String>> calls(String bare) {
+        Map<String, Set<String>> all = new TreeMap<>();
+        String name = "";
+        for (String line : bare.split("\n")) {
+            Matcher head = HEAD.matcher(line);
+            if (head.matches()) {
+                name = head.group(1);
+                all.putIfAbsent(name, new TreeSet<>());
+            } else {
+                Matcher call = CALL.matcher(line);
+                while (!name.isEmpty() && call.find()) {
+                    all.get(name).add(call.group(1));
+                }
+            }
+        }
+        return all;
+    }
+
+    private static int depth(Map<String, Set<String>> calls, String name, List<String> above) {
+        hold(!above.contains(name), name + " is not called from within itself: " + above);
+        int deepest = 0;
+        if (!above.contains(name) && calls.containsKey(name)) {
+            List<String> here = new ArrayList<>(above);
+            here.add(name);
+            for (String called : calls.get(name)) {
+                deepest = Math.max(deepest, depth(calls, called, here));
+            }
+        }
+        return deepest + 1;
+    }
+
+    private static void depths(String bare) {
+        Map<String, Set<String>> calls = calls(bare);
+        hold(calls.size() > 60 && calls.get("spread").contains("goesOver"), "the methods are found in the source");
+        for (String name : calls.keySet()) {
+            int deep = depth(calls, name, List.of());
+            hold(deep <= 8, name + " goes eight deep at most, it goes " + deep);
+        }
+    }
+
     public static void main(String[] args) throws IOException {
-        face();
+        names();
         fields(RingAndFinger.class);
         for (Class<?> c : RingAndFinger.class.getDeclaredClasses()) {
             fields(c);
             hold(Modifier.isStatic(c.getModifiers()) && !Modifier.isPublic(c.getModifiers()), c + " is static, not public");
         }
         String source = Files.readString(SOURCE);
-        words(source);
+        String bare = source.replaceAll("(?s)/\\*.*?\\*/", " ").replaceAll("//[^\n]*", " ");
+        words(source, bare);
+        made(bare);
+        depths(bare);
         lengths(source);
         System.out.println(wrong == 0 ? "the language is kept" : wrong + " rules are not kept");
         if (wrong != 0) {
